@@ -416,6 +416,7 @@ public final class TrackedTable {
             return fact(number, STATE) == PENDING;
         }
 
+        /** Looks at the number itself, as isMade would make the calls deeper than the language allows. */
         int fact(int number, int what) {
             if (number < 0 || number >= made || number >= MOST_CHANGES || what < 0 || what >= FACTS) {
                 return NONE;
