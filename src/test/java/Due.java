@@ -7,11 +7,19 @@ final class Due {
     }
 
     static void is(String call, long got, long want) {
-        if (got == want) {
+        judge(got == want, call + " answered " + got + ", due is " + want);
+    }
+
+    static void same(String what, String got, String want) {
+        judge(got.equals(want), what + " is\n  " + got + "\nand should be\n  " + want);
+    }
+
+    private static void judge(boolean asDue, String otherwise) {
+        if (asDue) {
             passed++;
         } else {
             failed++;
-            System.out.println(call + " answered " + got + ", due is " + want);
+            System.out.println(otherwise);
         }
     }
 

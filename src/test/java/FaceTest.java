@@ -38,6 +38,11 @@ public final class FaceTest {
             Due.is(inside + " static", Modifier.isStatic(inside.getModifiers()) ? 1 : 0, 1);
             Due.is(inside + " public", Modifier.isPublic(inside.getModifiers()) ? 1 : 0, 0);
         }
+        limits(face);
+        for (Class<?> inside : face.getDeclaredClasses()) {
+            limits(inside);
+        }
+        Due.is("more than twelve classes", face.getDeclaredClasses().length + 1 > 12 ? 1 : 0, 0);
         source(Path.of(args[0]));
         Due.finish();
     }
@@ -70,6 +75,21 @@ public final class FaceTest {
             Due.is(field + " static and not final", Modifier.isStatic(field.getModifiers()) && !constant ? 1 : 0, 0);
         }
         return all;
+    }
+
+    /** Rules 1 and 11: names of the face are the face's alone; few parameters and few fields. */
+    private static void limits(Class<?> of) {
+        for (Method method : of.getDeclaredMethods()) {
+            boolean ofFace = METHODS.stream().anyMatch(text -> text.startsWith("int " + method.getName() + "("));
+            boolean isFace = Modifier.isPublic(method.getModifiers());
+            Due.is(method + " bears a name of the face", ofFace && !isFace ? 1 : 0, 0);
+            Due.is(method + " has too many parameters", method.getParameterCount() > 7 ? 1 : 0, 0);
+        }
+        int fields = 0;
+        for (Field field : of.getDeclaredFields()) {
+            fields += Modifier.isStatic(field.getModifiers()) ? 0 : 1;
+        }
+        Due.is(of + " has too many fields", fields > 20 ? 1 : 0, 0);
     }
 
     private static void source(Path file) throws IOException {

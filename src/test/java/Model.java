@@ -415,9 +415,9 @@ final class Model {
         return had;
     }
 
-    private int fault() {
+    static int faultOf(CharSequence text) {
         for (int end = 1; end <= text.length(); end++) {
-            Matcher matcher = TEXT.matcher(text.substring(0, end));
+            Matcher matcher = TEXT.matcher(text.subSequence(0, end));
             if (!matcher.matches() && !matcher.hitEnd()) {
                 return end - 1;
             }
@@ -429,7 +429,7 @@ final class Model {
         if (!author(author)) {
             return UNKNOWN;
         }
-        int fault = fault();
+        int fault = faultOf(text);
         if (fault != NONE) {
             return -100 - fault;
         }
