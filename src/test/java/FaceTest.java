@@ -44,6 +44,8 @@ public final class FaceTest {
         }
         Due.is("more than twelve classes", face.getDeclaredClasses().length + 1 > 12 ? 1 : 0, 0);
         source(Path.of(args[0]));
+        asInTheDocument(Files.readString(Path.of("../shared/DOC.md")), Files.readString(Path.of(args[0])));
+        sections(Files.readString(Path.of(args[0])));
         Due.finish();
     }
 
@@ -103,5 +105,34 @@ public final class FaceTest {
                 Due.is("the source has sign " + (int) sign + ", which", 1, 0);
             }
         }
+    }
+
+    /** Each line of the document's face stands in the source, in the document's order. */
+    private static void asInTheDocument(String document, String source) {
+        String face = document.substring(document.indexOf("```java") + 7);
+        int at = 0;
+        for (String line : face.substring(0, face.indexOf("```")).split("\n")) {
+            boolean call = line.endsWith(");");
+            String want = call ? line.substring(0, line.length() - 1) + " {" : line;
+            if (!want.isBlank()) {
+                int found = source.indexOf(want, at);
+                Due.is("the place of '" + want + "' told", found >= 0 ? 1 : 0, 1);
+                at = Math.max(at, found);
+            }
+        }
+    }
+
+    /** "Ahead of the calls .. the interface says: ---- .." */
+    private static void sections(String source) {
+        StringBuilder told = new StringBuilder();
+        Matcher heads = Pattern.compile("(?m)^    (?:// ---- (.*)|public int (\\w+)\\(.*)$").matcher(source);
+        while (heads.find()) {
+            told.append(heads.group(2) == null ? "\n" + heads.group(1) + ":" : " " + heads.group(2));
+        }
+        Due.same("sections", told.toString(), "\nmaking changes: track insert remove set"
+                + "\naccepting, rejecting: accept reject settle"
+                + "\norders: type clearText run undo"
+                + "\nwhat is told: size cell line setting change restsOn pending author sum count"
+                + "\nwhat the calls share:");
     }
 }
